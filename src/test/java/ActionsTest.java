@@ -94,11 +94,22 @@ final class ActionsTest {
         x.minutes(60);
         refused(x, IllegalStateException.class, "12: a 31st person in an empty line", () -> x.come(1, 0));
         StoodMinutes y = Seen.withPeople(2);
-        y.jump(y.come(0, 1));
-        y.undo();
-        y.undo();
+        y.minutes(2);
         y.come(0, 1);
-        due.is("12: one who comes again after undo may jump", 2, () -> y.jump(2));
+        y.come(0, 1);
+        y.jump(2);
+        y.jump(3);
+        for (int i = 0; i < 4; i++) {
+            y.undo();
+        }
+        y.come(0, 0);
+        y.come(0, 1);
+        int[] fresh = {0, 0, 2, 0, 0, 0, 0, 2, 0};
+        for (int what = 0; what <= 8; what++) {
+            int w = what;
+            due.is("12: one who comes after undo is new: " + w, fresh[w], () -> y.person(2, w));
+        }
+        due.is("12: one who comes after undo may jump", 2, () -> y.jump(3));
     }
 
     private static void promise13Go() {
@@ -201,6 +212,13 @@ final class ActionsTest {
         due.is("15: a jump of one place", 1, () -> x.jump(3));
         due.is("15: the counter keeps its minutes", 2, () -> x.line(0, 2));
         due.compare("15: behind a jump of one place", " 3 0 1 2", row(x, 0));
+        StoodMinutes y = Seen.withPeople(9);
+        y.come(0, 2);
+        y.set(2, 4);
+        y.set(3, 3);
+        due.is("15: a jump of 3 places for the price of 4", 3, () -> y.jump(9));
+        due.compare("15: behind it", " 0 1 2 3 4 5 9 6 7 8", row(y, 0));
+        due.is("15: what it cost", -12, () -> y.person(9, 4));
     }
 
     private static void promise15JumpRefused() {
@@ -269,6 +287,12 @@ final class ActionsTest {
         y.go(2);
         due.is("16: merge of two empty lines", 0, () -> y.merge(1, 0));
         due.is("16: the counter of the other empty line begins anew", 0, () -> y.line(0, 2));
+        StoodMinutes two = Seen.withPeople(2);
+        two.open(5);
+        two.minutes(2);
+        two.exchange(1, 0);
+        due.is("16: merge of two into an empty line", 2, () -> two.merge(1, 0));
+        due.compare("16: the first two, too", " 0 1", row(two, 1));
     }
 
     private static void promise16MergeRefused() {
@@ -407,6 +431,11 @@ final class ActionsTest {
             due.is("19: undo of action " + i, 8, x::undo);
             due.compare("19: all is as before action " + i, before, Seen.of(x));
         }
+        x.come(0, 0);
+        String late = Seen.of(x);
+        x.come(0, 0);
+        x.undo();
+        due.compare("19: in which minute someone came is kept", late, Seen.of(x));
         Seen.write(x, "W101");
         x.save(1);
         x.minutes(5);

@@ -53,6 +53,7 @@ final class ForesightTest {
         x.open(20);
         x.come(1, 0);
         x.come(1, 0);
+        due.is("21: in one minute", 0, () -> x.willPay(1));
         due.is("21: below the limit", 0, () -> x.willPay(29));
         due.is("21: at the limit, the first one is served already", 5, () -> x.willPay(30));
         due.is("21: one fee until the second one is served", 5, () -> x.willPay(999));
@@ -73,6 +74,16 @@ final class ForesightTest {
         x.set(0, 99);
         due.is("21: a limit that nobody comes to", 0, () -> x.willPay(999));
         due.throwsArgument("21: willPay(the greatest int)", () -> x.willPay(Integer.MAX_VALUE));
+        StoodMinutes edge = new StoodMinutes();
+        edge.open(11);
+        edge.come(1, 0);
+        edge.set(0, 10);
+        due.is("21: a fee in the minute before one is served", 5, () -> edge.willPay(999));
+        edge.minutes(9);
+        due.is("21: in the next minute alone", 5, () -> edge.willPay(1));
+        edge.set(0, 11);
+        edge.minutes(2);
+        due.is("21: one who was served when a fee was due is not looked at", 0, () -> edge.willPay(999));
     }
 
     private static void promise22Gain() {
@@ -191,6 +202,8 @@ final class ForesightTest {
         x.come(0, 0);
         x.come(0, 0);
         due.is("25: the last one of those who came together", 1, x::longest);
+        StoodMinutes one = Seen.withPeople(1);
+        due.is("25: the only one", 0, one::longest);
         x.open(6);
         x.come(1, 0);
         due.is("25: the lowest among several", 1, x::longest);
@@ -226,6 +239,17 @@ final class ForesightTest {
         // 3 8; 1 4
         due.is("26: a merging into an empty, faster line", 6, () -> x.saved(0, 1));
         due.is("26: a merging of an empty line", 0, () -> x.saved(1, 0));
+        x.come(0, 0);
+        // 1; 3 8; 1 4 7, or 3 8 13, by the minutes that each counter has worked
+        due.is("26: what the one counter has worked", 0, () -> x.saved(0, 1));
+        due.is("26: what the other one has worked", -12, () -> x.saved(1, 0));
+        x.minutes(1);
+        // 2 7; 2 5; all four by the pace 3 with 1 minute worked or by 5 with 3 minutes worked
+        x.come(0, 0);
+        x.come(0, 0);
+        x.minutes(1);
+        due.is("26: counters that worked differently", (2 + 5) + (1 + 6) - (2 + 5 + 8 + 11), () -> x.saved(0, 1));
+        due.is("26: counters that worked differently", (2 + 5) + (1 + 6) - (1 + 6 + 11 + 16), () -> x.saved(1, 0));
     }
 
     private static void promise26SavedRefused() {

@@ -213,8 +213,9 @@ final class ScriptTest {
         rich.set(0, 10);
         rich.set(1, 50);
         due.is("28: what the house pays is told up to 999", 999, () -> rich.simulate(3, 60) % 1000);
-        rich.set(1, 0);
         rich.minutes(10);
+        rich.set(1, 0);
+        due.is("28: the house paid", 600, () -> rich.about(8));
         due.is("28: what the house paid before does not count", 0, () -> rich.simulate(1, 1) % 1000);
     }
 

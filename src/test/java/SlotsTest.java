@@ -39,6 +39,7 @@ final class SlotsTest {
         x.minutes(8);
         x.jump(5);
         x.exchange(3, 5);
+        x.come(0, 1);
         String saved = Seen.of(x);
         x.save(1);
         x.go(5);

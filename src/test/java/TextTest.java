@@ -65,6 +65,10 @@ final class TextTest {
         error(0, "");
         error(0, "w101");
         error(0, " W101");
+        error(0, "V101");
+        error(0, "X101");
+        error(3, "W11:");
+        error(3, "W11/");
         error(1, "W");
         error(1, "W0");
         error(1, "W4");
@@ -101,6 +105,10 @@ final class TextTest {
         error(8, "W101x002-");
         error(5, "W101j3");
         error(6, "W101j0/");
+        error(6, "W101j0:");
+        error(5, "W101t:");
+        error(5, "W101c/0");
+        error(6, "W101c0/");
         error(5, "W101t");
         error(5, "W101t0");
         error(6, "W101t10");
@@ -136,9 +144,15 @@ final class TextTest {
 
     private static void promise5LoadForgets() {
         StoodMinutes x = Seen.withPeople(3);
+        x.come(0, 1);
         x.set(0, 10);
-        x.set(2, 9);
         x.open(4);
+        x.minutes(2);
+        x.exchange(1, 0);
+        x.jump(3);
+        x.set(1, 9);
+        x.set(2, 9);
+        x.set(3, 1);
         x.minutes(30);
         x.save(0);
         x.save(1);
