@@ -157,10 +157,7 @@ public final class StoodMinutes {
     }
 
     public int go(int p) throws IndexOutOfBoundsException, IllegalStateException {
-        requirePerson(p);
-        if (!hall.stands(p)) {
-            throw new IllegalStateException("the person does not stand");
-        }
+        requireStanding(p);
         history.remember(hall);
         return hall.leave(p);
     }
@@ -214,10 +211,7 @@ public final class StoodMinutes {
     // ---- what would be, if only minutes went by
 
     public int servedIn(int p) throws IndexOutOfBoundsException, IllegalStateException {
-        requirePerson(p);
-        if (!hall.stands(p)) {
-            throw new IllegalStateException("the person does not stand");
-        }
+        requireStanding(p);
         return hall.waitOf(p);
     }
 
@@ -325,6 +319,13 @@ public final class StoodMinutes {
     private void requirePerson(int p) {
         if (!hall.isPerson(p)) {
             throw new IndexOutOfBoundsException("there is no such person");
+        }
+    }
+
+    private void requireStanding(int p) {
+        requirePerson(p);
+        if (!hall.stands(p)) {
+            throw new IllegalStateException("the person does not stand");
         }
     }
 

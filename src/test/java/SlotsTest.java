@@ -42,6 +42,9 @@ final class SlotsTest {
         x.come(0, 1);
         String saved = Seen.of(x);
         x.save(1);
+        x.undo();
+        x.minutes(4);
+        x.come(1, 2);
         x.go(5);
         x.merge(0, 1);
         x.open(2);

@@ -167,6 +167,11 @@ final class TextTest {
         due.is("5: load again, from the start", 0, x::load);
         due.is("5: the minutes of the second load", 3, () -> x.about(0));
         due.is("5: the people of the second load", 1, () -> x.about(2));
+        int[] fresh = {0, 0, 0, 3, 0, 0, 0, 0, 0};
+        for (int what = 0; what <= 8; what++) {
+            int w = what;
+            due.is("5: nothing is left of the person 0 before: " + w, fresh[w], () -> x.person(0, w));
+        }
         due.throwsState("5: commands of a text are no actions", x::undo);
     }
 
