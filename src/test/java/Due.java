@@ -32,7 +32,7 @@ final class Due {
     }
 
     // The very class: an ArrayIndexOutOfBoundsException is the machine's, and never due.
-    private void isThrown(String told, Class<?> due, Call call) {
+    void isThrown(String told, Class<?> due, Call call) {
         String got;
         try {
             got = Long.toString(call.answer());
@@ -48,6 +48,10 @@ final class Due {
             wrong++;
             System.out.println(told + ": got " + got + ", due is " + due);
         }
+    }
+
+    int asked() {
+        return asked;
     }
 
     /** Ends the test's program; its exit code tells whether an answer was wrong. */

@@ -4,6 +4,8 @@ import java.lang.reflect.Method;
 import java.lang.reflect.Modifier;
 import java.util.Set;
 import java.util.TreeSet;
+import java.util.regex.Matcher;
+import java.util.regex.Pattern;
 
 /** The public face: the document's members, no others, and no private method of a public one's name. */
 final class FaceTest {
@@ -45,6 +47,7 @@ final class FaceTest {
     public static void main(String[] args) {
         Class<?> face = StoodMinutes.class;
         due.is("the class is public and final", Modifier.PUBLIC | Modifier.FINAL, face::getModifiers);
+        document();
         methods(face);
         fields(face);
         for (Constructor<?> made : face.getDeclaredConstructors()) {
@@ -55,6 +58,19 @@ final class FaceTest {
                     Modifier.isPrivate(inside.getModifiers()) && Modifier.isStatic(inside.getModifiers())));
         }
         due.end("FaceTest");
+    }
+
+    /** The methods that the document's public face lists are those that are asked for here. */
+    private static void document() {
+        Set<String> listed = new TreeSet<>();
+        Matcher method = Pattern.compile("public int (\\w+)\\(([^)]*)\\)(?: throws ([^;]*))?;")
+                .matcher(new Doc().body("The public face"));
+        while (method.find()) {
+            String types = method.group(2).replaceAll("(\\w+) \\w+", "$1").replace(" ", "");
+            String thrown = method.group(3) == null ? "" : " " + method.group(3).replace(",", "");
+            listed.add(method.group(1) + "(" + types + ")" + thrown);
+        }
+        due.compare("the document's methods", new TreeSet<>(Set.of(METHODS)).toString(), listed.toString());
     }
 
     private static void methods(Class<?> face) {

@@ -160,7 +160,7 @@ final class ScriptTest {
     }
 
     /** The turns of a simulation, done by the object's own actions. */
-    private static int byHand(StoodMinutes x, long seed, int m) {
+    static int byHand(StoodMinutes x, long seed, int m) {
         long state = seed;
         int house = x.about(8);
         int served = 0;
