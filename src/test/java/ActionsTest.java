@@ -1,3 +1,6 @@
+import java.util.List;
+import java.util.function.Consumer;
+
 /** Promises 11 to 19: the actions, and undo. */
 final class ActionsTest {
     private static final Due due = new Due();
@@ -30,9 +33,18 @@ final class ActionsTest {
         return row.toString();
     }
 
-    /** The call throws, changes nothing, and is no action. */
+    /** The numbers of about: few calls, as an object has but 512. */
+    private static String numbers(StoodMinutes x) {
+        StringBuilder numbers = new StringBuilder();
+        for (int what = 0; what <= 9; what++) {
+            numbers.append(' ').append(x.about(what));
+        }
+        return numbers.toString();
+    }
+
+    /** The call throws, and changes none of the numbers; that it changes nothing at all, the edges' tests ask. */
     private static void refused(StoodMinutes x, Class<?> kind, String told, Due.Call call) {
-        String before = Seen.of(x);
+        String before = numbers(x);
         if (kind == IndexOutOfBoundsException.class) {
             due.throwsIndex(told, call);
         } else if (kind == IllegalArgumentException.class) {
@@ -40,7 +52,7 @@ final class ActionsTest {
         } else {
             due.throwsState(told, call);
         }
-        due.compare(told + " changes nothing", before, Seen.of(x));
+        due.compare(told + " changes nothing", before, numbers(x));
     }
 
     private static void promise11Open() {
@@ -416,21 +428,28 @@ final class ActionsTest {
         due.throwsState("19: undo is no action", x::undo);
     }
 
-    private static void promise19UndoOfEachAction() {
+    /** People of all kinds in two lines; 8 states are remembered. */
+    private static StoodMinutes busy() {
         StoodMinutes x = new StoodMinutes();
         x.open(4);
         for (int kind : new int[] {0, 1, 2, 1, 2, 0}) {
             x.come(kind % 2, kind);
         }
         x.minutes(2);
-        Due.Call[] actions = {() -> x.open(5), () -> x.come(0, 1), () -> x.go(0), () -> x.exchange(2, 0),
-            () -> x.jump(4), () -> x.jump(3), () -> x.merge(1, 0), () -> x.minutes(9), () -> x.set(2, 9)};
-        for (int i = 0; i < actions.length; i++) {
-            String before = Seen.of(x);
-            actions[i].answer();
+        return x;
+    }
+
+    private static void promise19UndoOfEachAction() {
+        List<Consumer<StoodMinutes>> actions = List.of(x -> x.open(5), x -> x.come(0, 1), x -> x.go(0),
+                x -> x.exchange(2, 0), x -> x.jump(4), x -> x.jump(3), x -> x.merge(1, 0), x -> x.minutes(9),
+                x -> x.set(2, 9));
+        for (int i = 0; i < actions.size(); i++) {
+            StoodMinutes x = busy();
+            actions.get(i).accept(x);
             due.is("19: undo of action " + i, 8, x::undo);
-            due.compare("19: all is as before action " + i, before, Seen.of(x));
+            due.compare("19: all is as before action " + i, Seen.of(busy()), Seen.of(x));
         }
+        StoodMinutes x = busy();
         x.come(0, 0);
         String late = Seen.of(x);
         x.come(0, 0);

@@ -183,7 +183,7 @@ final class ForesightEdgesTest extends Edges {
     private void paysAsItSays(Supplier<StoodMinutes> made) {
         StoodMinutes asked = made.get();
         StoodMinutes goesOn = made.get();
-        for (int n = 1; n <= 240; n++) {
+        for (int n = 1; n <= 200; n++) {
             goesOn.minutes(1);
             int minutes = n;
             is(goesOn.about(8) - asked.about(8), () -> made.get().willPay(minutes));

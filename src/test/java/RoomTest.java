@@ -2,45 +2,45 @@ import java.lang.management.ManagementFactory;
 
 /** What calls and constructors take of the one room in which all calls of a run live. */
 final class RoomTest {
-    private static final int CALLS = 512;
+    private static final int CALLS = 500;
     private static final Due due = new Due();
     private static final com.sun.management.ThreadMXBean THREADS =
             (com.sun.management.ThreadMXBean) ManagementFactory.getThreadMXBean();
 
-    /** What one call does; the number is that of the call. */
+    /** What one step does; the number is that of the step. */
     private interface Step {
-        void on(StoodMinutes x, int call);
+        void on(StoodMinutes x, int step);
     }
 
     public static void main(String[] args) {
         constructor();
-        calls("come, exchange, jump, go", RoomTest::crowd);
-        calls("minutes and undo", (x, i) -> {
+        calls("come, partner and bestLine", 5, RoomTest::crowd);
+        calls("minutes and undo", 1, (x, i) -> {
             if (i % 3 == 2) {
                 x.undo();
             } else {
                 x.minutes(60);
             }
         });
-        calls("merge and set", (x, i) -> {
+        calls("merge and set", 1, (x, i) -> {
             if (i % 2 == 0) {
                 x.merge(i / 2 % 2, 1 - i / 2 % 2);
             } else {
                 x.set(3, 1 + i % 5);
             }
         });
-        calls("simulate", (x, i) -> x.simulate(i, 99));
-        calls("runScript", (x, i) -> x.runScript(3, 600606006060060L));
-        calls("willPay, partner and longest", (x, i) -> {
+        calls("simulate", 1, (x, i) -> x.simulate(i, 99));
+        calls("runScript", 1, (x, i) -> x.runScript(3, 600606006060060L));
+        calls("willPay, partner and longest", 3, (x, i) -> {
             x.willPay(999);
             x.partner(i % 5);
             x.longest();
         });
-        calls("save and restore", (x, i) -> {
+        calls("save and restore", 2, (x, i) -> {
             x.save(i % 2);
             x.restore(i % 2);
         });
-        calls("text", RoomTest::text);
+        calls("text", 3, RoomTest::text);
         due.end("RoomTest");
     }
 
@@ -73,7 +73,8 @@ final class RoomTest {
         due.compare("a new object takes less than 64 KiB", "true", String.valueOf(bytes < 65536 && x.about(0) == 0));
     }
 
-    private static void calls(String told, Step step) {
+    /** Does as many steps, of so many calls each, as an object has calls. */
+    private static void calls(String told, int callsOfAStep, Step step) {
         StoodMinutes x = new StoodMinutes();
         x.open(4);
         for (int p = 0; p < 6; p++) {
@@ -81,7 +82,7 @@ final class RoomTest {
         }
         step.on(x, 0);
         long before = taken();
-        for (int i = 1; i < CALLS; i++) {
+        for (int i = 1; i < CALLS / callsOfAStep; i++) {
             step.on(x, i);
         }
         long bytes = taken() - before;

@@ -523,6 +523,8 @@ final class ScriptEdgesTest extends Edges {
         turn(1000, 2048 + 5);
         turn(1000, 2 * 2048 + 64 + 5);
         turn(1005, 3 * 2048 + 128 + 5);
+        turn(1005, 201 * 2048 + 128 + 5);
+        turn(1000, 202 * 2048 + 5);
     }
 
     @Says(in = "28", words = L_P_Q)

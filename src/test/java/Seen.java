@@ -11,17 +11,20 @@ final class Seen {
         for (int what = 0; what <= 3; what++) {
             all.append(' ').append(x.setting(what));
         }
-        for (int l = 0; l < x.about(1); l++) {
+        int lines = x.about(1);
+        for (int l = 0; l < lines; l++) {
             all.append(" / line ").append(l).append(':');
             for (int what = 0; what <= 4; what++) {
                 all.append(' ').append(x.line(l, what));
             }
             all.append(" row");
-            for (int k = 0; k <= x.line(l, 1); k++) {
+            int length = x.line(l, 1);
+            for (int k = 0; k <= length; k++) {
                 all.append(' ').append(x.at(l, k));
             }
         }
-        for (int p = 0; p < x.about(2); p++) {
+        int people = x.about(2);
+        for (int p = 0; p < people; p++) {
             all.append(" / person ").append(p).append(':');
             for (int what = 0; what <= 8; what++) {
                 all.append(' ').append(x.person(p, what));

@@ -201,6 +201,20 @@ final class SlotEdgesTest extends Edges {
         is(2, () -> x.jump(3));
     }
 
+    @Says(in = "30", words = RESTORE)
+    void promise30_whoCameInAnotherMinuteIsRestored() {
+        x.minutes(5);
+        x.come(0, 1);
+        x.save(0);
+        x.undo();
+        x.minutes(3);
+        x.come(0, 2);
+        is(8, () -> x.person(0, 7));
+        x.restore(0);
+        is(5, () -> x.person(0, 7));
+        is(1, () -> x.person(0, 0));
+    }
+
     @Says(in = "30", words = NO_SLOT)
     void promise30_slot_minus1() {
         refused(INDEX, Edges::lived, y -> y.restore(-1));

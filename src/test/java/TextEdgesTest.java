@@ -567,6 +567,29 @@ final class TextEdgesTest extends Edges {
     }
 
     @Says(in = "5", words = AS_NEW)
+    void promise5_ofAllThatThePeopleBeforeHadNothingIsLeft() {
+        x = day("W22020c20c10c20c21c11c21t9j02j05x0100");
+        x.go(2);
+        x.minutes(60);
+        x.clearText();
+        Seen.write(x, "W22020c00c00c00c01c01c01");
+        x.load();
+        same(Seen.of(day("W22020c00c00c00c01c01c01")), Seen.of(x));
+    }
+
+    @Says(in = "5", words = AS_NEW)
+    void promise5_nothingOfWhatTheHousePaidBeforeCounts() {
+        x = day("W22020c00c10j01t9");
+        is(2, () -> x.about(8));
+        x.load();
+        is(2, () -> x.about(8));
+        x.clearText();
+        Seen.write(x, "W120");
+        x.load();
+        is(0, () -> x.about(8));
+    }
+
+    @Says(in = "5", words = AS_NEW)
     void promise5_theSettingsAreThoseAtFirst() {
         x = new StoodMinutes();
         x.set(0, 99);
