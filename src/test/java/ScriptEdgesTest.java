@@ -251,6 +251,15 @@ final class ScriptEdgesTest extends Edges {
         script(-1, 51000, 80504, 80302);
     }
 
+    @Says(in = "27", words = "5 l m 0 0: merge(l, m).")
+    void promise27_command5_intoTheFirstOfTheTwo() {
+        // the counter of line 0 has worked 1 of 3 minutes, that of line 1 4 of 10
+        x = asked();
+        script(-1, 50100, 60002, 70001);
+        script(2, 51000, 60002, 70001);
+        script(-1, 51000, 60006, 70001);
+    }
+
     @Says(in = "27", words = {"5 l m 0 0: merge(l, m).", FAIL})
     void promise27_command5_12and13() {
         x = day("W22020" + "c00".repeat(7) + "c01".repeat(4));
@@ -351,6 +360,35 @@ final class ScriptEdgesTest extends Edges {
             script(0, 70000 + p);
             script(0, 80000 + 100 * p);
         }
+    }
+
+    @Says(in = "27", words = NO_PERSON)
+    void promise27_personsOfADayBeforeDoNotExist() {
+        x = day("W120c00c10c10c10t9");
+        x.clearText();
+        Seen.write(x, "W120c00");
+        x.load();
+        script(-1, 20000);
+        for (int command : new int[] {20001, 30100, 30201, 40001, 40003, 80100, 80101}) {
+            script(0, command);
+        }
+        x = day("W101c00c00t2");
+        script(-1, 70000, 70001);
+        x.clearText();
+        Seen.write(x, "W101c00t1");
+        x.load();
+        script(-1, 70000);
+        script(0, 70001);
+    }
+
+    @Says(in = "27", words = NO_PERSON)
+    void promise27_aPersonThatWasTakenBackDoesNotExist() {
+        x = day("W120c00");
+        x.come(0, 1);
+        script(-1, 20001);
+        x.undo();
+        script(0, 20001);
+        script(0, 40001);
     }
 
     @Says(in = "27", words = NO_PERSON)

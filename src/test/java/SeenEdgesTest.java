@@ -50,8 +50,8 @@ final class SeenEdgesTest extends Edges {
 
     @Says(in = "6", words = ABOUT)
     void promise6_exchangesAndJumps_eachCountsItsOwn() {
-        x = day("W120c00c00c20c10t4x0100x0001j02j03");
-        about(4, 1, 4, 4, 0, 0, 2, 2, 4, 4);
+        x = day("W120c00c00c20c10t4x0100x0001j02j03x0100");
+        about(4, 1, 4, 4, 0, 0, 3, 2, 4, 4);
     }
 
     @Says(in = "6", words = ABOUT)

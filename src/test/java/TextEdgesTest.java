@@ -578,7 +578,31 @@ final class TextEdgesTest extends Edges {
     }
 
     @Says(in = "5", words = AS_NEW)
-    void promise5_nothingOfWhatTheHousePaidBeforeCounts() {
+    void promise5_commandsOfPeopleOfTheDayBeforeAreLeftOut() {
+        x = day("W120c00c10c10c10t9");
+        x.clearText();
+        Seen.write(x, "W120c00g01x0100j02x0001");
+        is(4, x::load);
+        is(1, () -> x.about(2));
+        is(0, () -> x.about(5));
+    }
+
+    @Says(in = "5", words = AS_NEW)
+    void promise5_linesOfTheDayBeforeServeNobody() {
+        x = day("W3200101c00c01c01c02c02");
+        x.clearText();
+        Seen.write(x, "W120c00c00c00c00c00");
+        x.load();
+        is(0, () -> x.minutes(5));
+        row(0, 0, 1, 2, 3, 4);
+        is(0, x::bestLine);
+        is(1, () -> x.open(1));
+        row(1);
+        is(0, () -> x.minutes(5));
+    }
+
+    @Says(in = "5", words = AS_NEW)
+    void promise5_nothingOfWhatWasPaidBeforeCounts() {
         x = day("W22020c00c10j01t9");
         is(2, () -> x.about(8));
         x.load();
@@ -587,6 +611,7 @@ final class TextEdgesTest extends Edges {
         Seen.write(x, "W120");
         x.load();
         is(0, () -> x.about(8));
+        is(0, () -> x.about(9));
     }
 
     @Says(in = "5", words = AS_NEW)

@@ -287,6 +287,36 @@ final class TradeEdgesTest extends Edges {
     }
 
     @Says(in = "Terms", words = JUMP_PAID)
+    void jump_byRight_theLeastAndTheGreatestPrice() {
+        x = stood(3, 1, 0);
+        x.set(2, 9);
+        x.jump(2);
+        is(9, () -> x.person(0, 5));
+        is(9, () -> x.person(1, 4));
+        is(18, () -> x.about(8));
+        x = stood(3, 1, 0);
+        x.set(2, 1);
+        x.jump(2);
+        is(1, () -> x.person(0, 5));
+        is(2, () -> x.about(8));
+    }
+
+    @Says(in = "Terms", words = JUMP_PAID)
+    void jump_ofAHastyOne_theLeastAndTheGreatestPrice() {
+        x = stood(3, 2, 0);
+        x.set(2, 9);
+        x.jump(2);
+        is(9, () -> x.person(0, 4));
+        is(9, () -> x.person(1, 4));
+        is(-18, () -> x.person(2, 4));
+        x = stood(3, 2, 0);
+        x.set(2, 1);
+        x.jump(2);
+        is(1, () -> x.person(0, 4));
+        is(-2, () -> x.person(2, 4));
+    }
+
+    @Says(in = "Terms", words = JUMP_PAID)
     void jump_ofAHastyOne_theAccountFallsBelowWhatIsStood() {
         x = stood(6, 2, 0);
         x.set(2, 9);
