@@ -17,6 +17,7 @@ final class CiTest {
     private static final String SMALL = "public final class StoodMinutes { public int seven() { return 7; } }";
     private static final String SHARED = "shared/tests/SmallRuns.java";
     private static final String OWN = "main/src/test/java/SmallTest.java";
+    private static final int AT_ONCE = 4;
     private static final Due due = new Due();
     private static final List<Project> projects = new ArrayList<>();
 
@@ -52,6 +53,10 @@ final class CiTest {
                     .redirectErrorStream(true)
                     .redirectOutput(printed.toFile())
                     .start();
+        }
+
+        void await() throws InterruptedException {
+            exit = run.waitFor();
         }
 
         List<String> printed() throws IOException {
@@ -104,13 +109,15 @@ final class CiTest {
         due.end("CiTest");
     }
 
-    /** All of them at once, as each takes some seconds. */
+    /** Some at once, as each takes seconds; not all, as each takes machines of its own. */
     private static void runAll() throws Exception {
-        for (Project project : projects) {
-            project.start();
-        }
-        for (Project project : projects) {
-            project.exit = project.run.waitFor();
+        for (int i = 0; i < projects.size() + AT_ONCE; i++) {
+            if (i >= AT_ONCE) {
+                projects.get(i - AT_ONCE).await();
+            }
+            if (i < projects.size()) {
+                projects.get(i).start();
+            }
         }
     }
 
@@ -166,7 +173,7 @@ final class CiTest {
                 .redirectErrorStream(true)
                 .redirectOutput(alone.printed.toFile())
                 .start();
-        alone.exit = alone.run.waitFor();
+        alone.await();
         String last = inReadme().replaceAll("(?s).*?(?<asked>SlotsTest: [^\n]*)1 wrong.*", "${asked}0 wrong");
         ends(alone, 0, last);
     }
